@@ -79,6 +79,9 @@ public final class CityTest {
     check.due("worst is another", y.worst(), 0);
     check.due("fine of one row", y.fine(0), 70);
     check.due("longest of two rows", y.longest(1), 2);
+    AlibiRota z = Check.told("city places 2 hours 1 sight 0 pace 0 fine 1 ring 2 odds 0; person at 0 to 1; person at 0;");
+    check.due("a fine of 1", z.fine(0), 1);
+    check.due("is the worst", z.worst(), 0);
   }
 
   private static void oaths() {

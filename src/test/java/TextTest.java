@@ -68,6 +68,9 @@ public final class TextTest {
     faulty("wall 0;", 1, 0);
     faulty("person at 0;", 1, 0);
     faulty("citys places 4", 1, 0);
+    faulty("cityz places 4", 1, 0);
+    faulty("xity places 4", 1, 0);
+    faulty("citx places 4", 1, 0);
     faulty("cit", 1, 0);
     faulty("city", 1, 4);
     faulty("city  \n", 1, 7);
