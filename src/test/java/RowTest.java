@@ -195,10 +195,10 @@ public final class RowTest {
     check.due("not within", x.paste(0, 2, 1, 1, 2), -7);
     check.due("nothing happened", x.who(1), 4);
     check.due("a new row", x.row(1, 0, 2), 0);
-    check.due("is all 0", x.who(1), x.can(0, 0));
+    check.due("is all 0", x.who(1), 1);
     x.row(1, 0, 0);
     x.row(1, 0, 6);
-    check.due("is all 0 again", x.who(1), x.can(0, 0));
+    check.due("is all 0 again", x.who(1), 1);
   }
 
   public static void main(String[] args) {
