@@ -1,4 +1,8 @@
-/** What the tests share: counting answers, and feeding a text. */
+import java.util.function.Consumer;
+import java.util.function.IntToLongFunction;
+import java.util.function.Supplier;
+
+/** What the tests share: counting answers, feeding a text, and edges. */
 final class Check {
   private final String test;
   private int right = 0;
@@ -16,6 +20,32 @@ final class Check {
   }
 
   void holds(String what, boolean so) { due(what, so ? 1 : 0, 1); }
+
+  /** -2 is due just outside from low to high, and far outside, and nowhere within. */
+  void within(String what, int low, int high, IntToLongFunction call) {
+    if (low <= high) {
+      holds(what + ": " + low + " is taken", call.applyAsLong(low) != -2);
+      holds(what + ": " + high + " is taken", call.applyAsLong(high) != -2);
+    }
+    for (int v : new int[] {Integer.MIN_VALUE, low - 1, high + 1, Integer.MAX_VALUE}) due(what + ": " + v, call.applyAsLong(v), -2);
+  }
+
+  /** Of two objects made alike, the one that had calls shows the same as the one that had none. */
+  void stays(String what, Supplier<AlibiRota> made, Consumer<AlibiRota> calls) {
+    AlibiRota x = made.get();
+    calls.accept(x);
+    String got = State.of(x);
+    String want = State.of(made.get());
+    if (!got.equals(want)) System.out.println(firstUnlike(got, want));
+    holds(what + " changes nothing", got.equals(want));
+  }
+
+  private static String firstUnlike(String got, String want) {
+    String[] a = got.split("\n");
+    String[] b = want.split("\n");
+    for (int i = 0; i < a.length && i < b.length; i++) if (!a[i].equals(b[i])) return "'" + a[i] + "', not '" + b[i] + "'";
+    return a.length + " lines, not " + b.length;
+  }
 
   void close() {
     System.out.println(test + ": " + right + " passed, " + wrong + " failed");

@@ -8,11 +8,13 @@ public final class ModelTest {
   private Model m = new Model();
   private final Random r;
   private final StringBuilder story = new StringBuilder();
+  private int calls = 0;
 
   private ModelTest(long seed) { r = new Random(seed); }
 
   private void due(String call, long got, long want) {
     asked++;
+    calls++;
     story.append(call).append(" = ").append(got).append('\n');
     if (got == want) return;
     wrong++;
@@ -236,7 +238,8 @@ public final class ModelTest {
   }
 
   private void run() {
-    for (int i = 0; i < 30 && wrong == 0; i++) {
+    // An object is good for 512 calls, and no step below takes more than 150.
+    for (int i = 0; i < 30 && wrong == 0 && calls < 360; i++) {
       switch (r.nextInt(12)) {
         case 0: feedText(r.nextInt(30) == 0 ? " \n" : randomText()); break;
         case 1: case 2: change(); break;
@@ -252,7 +255,7 @@ public final class ModelTest {
   }
 
   public static void main(String[] args) {
-    int runs = args.length > 0 ? Integer.parseInt(args[0]) : 1500;
+    int runs = args.length > 0 ? Integer.parseInt(args[0]) : 2500;
     int from = args.length > 1 ? Integer.parseInt(args[1]) : 0;
     for (int i = 0; i < runs && wrong == 0; i++) {
       ModelTest t = new ModelTest(from + i);
